@@ -228,7 +228,10 @@ public final class WrittenMoves {
 
     public int fatal(int board, int game, int k, boolean sign) {
         Game played = told.gameAt(game);
-        int found = reachMove(board, played, k) ? play.fatalOf(played, k) : NONE;
+        if (played == null || play.follow(told.boardAt(board), played, k) != k) {
+            return NONE;
+        }
+        int found = play.fatalOf(played, k);
         if (found == NONE) {
             return NONE;
         }
@@ -237,7 +240,8 @@ public final class WrittenMoves {
 
     public boolean loses(int board, int game, int k) {
         Game played = told.gameAt(game);
-        return reachMove(board, played, k) && play.losesBy(played, k);
+        return played != null && play.follow(told.boardAt(board), played, k) == k
+            && play.losesBy(played, k);
     }
 
     public int brave(int board, int game, int side) {
@@ -371,12 +375,6 @@ public final class WrittenMoves {
         return board != null && side >= 0 && side <= 1 && n >= 1 && n <= Contest.MOST_LENGTH;
     }
 
-    /** Brings the play to right ahead of a MOVE up to STOP for which there is a man to obey. */
-    private boolean reachMove(int board, Game game, int k) {
-        return game != null && game.hasMove(k)
-            && play.follow(told.boardAt(board), game, k) == k && !play.stand.isOver();
-    }
-
     private static long bit(int field) {
         return 1L << field;
     }
@@ -393,16 +391,16 @@ public final class WrittenMoves {
     }
 
     private static int signOf(long rule, int k) {
-        return (int) (rule >>> 4 * k + 4 & 15);
+        return (int) (rule >>> (4 * k + 4)) & 15;
     }
 
     private static long withSign(long rule, int sign) {
-        return (rule | (long) sign << 4 * lengthOf(rule) + 4) + 1;
+        return (rule | (long) sign << (4 * lengthOf(rule) + 4)) + 1;
     }
 
     private static long changedSign(long rule, int k, int sign) {
         int at = 4 * k + 4;
-        return rule & ~(15L << at) | (long) sign << at;
+        return (rule & ~(15L << at)) | ((long) sign << at);
     }
 
     /** A BOARD as it was told. */
@@ -625,8 +623,6 @@ public final class WrittenMoves {
             } else if (fault == 0 && sort == BOARDS && !board.isSound()) {
                 note(4, length);
             }
-            // A FIELD is one thing: a WALL told as a PIT, too, is no PIT.
-            board.pits &= ~board.walls;
         }
 
         private boolean readBoardLine() {
@@ -715,7 +711,7 @@ public final class WrittenMoves {
                 if (sign < 0 || sign == QUOTE && quotes) {
                     return false;
                 }
-                quotes |= sign == QUOTE;
+                quotes = quotes || sign == QUOTE;
                 read = withSign(read, sign);
             }
             rule = read;
@@ -838,13 +834,13 @@ public final class WrittenMoves {
             for (int row = 0; row < board.height; row++) {
                 west |= bit(row * board.width);
             }
-            long east = west << board.width - 1;
-            from[0] = open << board.width & all;
+            long east = west << (board.width - 1);
+            from[0] = (open << board.width) & all;
             from[1] = (open & ~west) >>> 1;
             from[2] = open >>> board.width;
             from[3] = (open & ~east) << 1;
-            beside = foes << board.width & all | (foes & ~west) >>> 1
-                | foes >>> board.width | (foes & ~east) << 1;
+            beside = ((foes << board.width) & all) | ((foes & ~west) >>> 1)
+                | (foes >>> board.width) | ((foes & ~east) << 1);
         }
 
         /** Where those of these FIELDS lead from which a STEP to a side can be. */
@@ -933,7 +929,9 @@ public final class WrittenMoves {
                 for (int field = 0; field < MOST_FIELDS; field++) {
                     if (has(at[way], field)) {
                         probe.begin(way, field);
-                        probe.addAll(ground, quote);
+                        for (int k = 0; k < lengthOf(quote); k++) {
+                            probe.add(ground, signOf(quote, k));
+                        }
                         keepAside(way, field);
                     }
                 }
@@ -955,21 +953,26 @@ public final class WrittenMoves {
         /** Goes by one SIGN; q is nothing, and takes away what is right ahead of it. */
         void add(Ground ground, int sign) {
             int before = ahead;
-            ahead = sign == TWICE || sign == MAYBE ? sign : NONE;
-            if (sign == TWICE || sign == MAYBE || sign == QUOTE) {
+            boolean prefix = sign == TWICE || sign == MAYBE;
+            ahead = prefix ? sign : NONE;
+            if (prefix || sign == QUOTE) {
                 return;
             }
             if (before == MAYBE) {
                 setAside(ground, sign);
-                go(ground, sign);
-                for (int way = 0; way < WAYS; way++) {
-                    at[way] |= aside[way];
-                }
-                return;
             }
-            go(ground, sign);
-            if (before == TWICE) {
-                go(ground, sign);
+            int times = before == TWICE ? 2 : 1;
+            for (int time = 0; time < times; time++) {
+                if (sign <= ANY) {
+                    goSteps(ground, sign);
+                } else if (sign == ON) {
+                    goOn(ground);
+                } else {
+                    stay(sign == BESIDE ? ground.beside : ~ground.beside);
+                }
+            }
+            for (int way = 0; way < WAYS && before == MAYBE; way++) {
+                at[way] |= aside[way];
             }
         }
 
@@ -991,45 +994,35 @@ public final class WrittenMoves {
             }
         }
 
-        /** Goes by one SIGN; PATHS for which it can't be are gone. */
-        private void go(Ground ground, int sign) {
-            if (sign == BESIDE || sign == APART) {
-                long rest = sign == BESIDE ? ground.beside : ~ground.beside;
-                for (int way = 0; way < WAYS; way++) {
-                    at[way] &= rest;
-                }
-                return;
-            }
+        private void goSteps(Ground ground, int sign) {
             long here = here();
             for (int side = 0; side < SIDES; side++) {
-                if (sign == ON) {
-                    goOn(ground, side);
-                } else {
-                    at[side] = 0;
-                    if (sign == ANY || sign == side) {
-                        goStep(ground, here, side);
-                    }
-                }
+                long there = sign == ANY || sign == side ? ground.moved(here, side) : 0;
+                ended |= there & ground.halts;
+                at[side] = there & ~ground.halts;
             }
             at[NO_WAY] = 0;
         }
 
-        private void goStep(Ground ground, long here, int side) {
-            long there = ground.moved(here, side);
-            ended |= there & ground.halts;
-            at[side] = there & ~ground.halts;
+        private void goOn(Ground ground) {
+            for (int side = 0; side < SIDES; side++) {
+                long going = at[side];
+                long resting = 0;
+                for (int k = 0; k < LONGEST_SIDE; k++) {
+                    resting |= going & ~ground.from[side];
+                    going = ground.moved(going, side);
+                    ended |= going & ground.halts;
+                    going &= ~ground.halts;
+                }
+                at[side] = resting;
+            }
+            at[NO_WAY] = 0;
         }
 
-        private void goOn(Ground ground, int side) {
-            long going = at[side];
-            long resting = 0;
-            for (int k = 0; k < LONGEST_SIDE; k++) {
-                resting |= going & ~ground.from[side];
-                going = ground.moved(going, side);
-                ended |= going & ground.halts;
-                going &= ~ground.halts;
+        private void stay(long fields) {
+            for (int way = 0; way < WAYS; way++) {
+                at[way] &= fields;
             }
-            at[side] = resting;
         }
     }
 
@@ -1144,17 +1137,9 @@ public final class WrittenMoves {
         }
 
         private void weighOn(int k, int here, int way, int field) {
-            int at = field;
-            int steps = 0;
-            for (int i = 0; i < LONGEST_SIDE && !has(ground.halts, at); i++) {
-                int to = ground.stepTo(at, way);
-                if (to == NONE) {
-                    break;
-                }
-                at = to;
-                steps++;
-            }
-            join(here, place(k + 1, way, at), steps);
+            length = 0;
+            int at = followOn(field, way);
+            join(here, place(k + 1, way, at), length);
         }
 
         /** Writes down the FIRST PATH from a FIELD to the END weighed, of which there is one. */
@@ -1321,12 +1306,12 @@ public final class WrittenMoves {
         /** Whether ENDS are not yet in the table; they are then. 0 is an empty place of it. */
         private boolean isNew(long ends) {
             long mixed = ends * 0x9E3779B97F4A7C15L;
-            int place = (int) (mixed >>> 50) & TABLE - 1;
+            int place = (int) (mixed >>> 50) & (TABLE - 1);
             for (int k = 0; k < TABLE && table[place] != 0; k++) {
                 if (table[place] == ends) {
                     return false;
                 }
-                place = place + 1 & TABLE - 1;
+                place = (place + 1) & (TABLE - 1);
             }
             table[place] = ends;
             return true;
@@ -1511,6 +1496,9 @@ public final class WrittenMoves {
 
         /** FATAL of a MOVE that it stands ahead of: ten times the place, and the SIGN; or NONE. */
         int fatalOf(Game game, int k) {
+            if (!game.hasMove(k) || stand.isOver()) {
+                return NONE;
+            }
             long rule = game.rules[k];
             for (int place = 0; place < lengthOf(rule); place++) {
                 for (int sign = 0; sign < LISTED_SIGNS; sign++) {
@@ -1527,13 +1515,12 @@ public final class WrittenMoves {
 
         /** LOSES of a MOVE that it stands ahead of. */
         boolean losesBy(Game game, int k) {
-            int field = game.fields[k];
-            if (field == NONE) {
+            if (!game.hasMove(k) || game.fields[k] == NONE || stand.isOver()) {
                 return false;
             }
             long ends = reached(game.rules[k], game.ruleAhead(k));
             long safe = ends & ~stand.board.pits & ~ground.beside;
-            return safe != 0 && !has(safe, field);
+            return safe != 0 && !has(safe, game.fields[k]);
         }
 
         /** Plays a GAME that is DRAWN by a SEED: how many MOVES there were. */
@@ -1625,17 +1612,17 @@ public final class WrittenMoves {
         }
 
         /** Whether it is WON from where it stands with so many MOVES left. */
-        boolean isWonWithin(int left) {
+        private boolean isWonWithin(int left) {
             Stand stand = stands[left];
             int others = stand.menOf(1 - side);
             if (others == 0) {
                 return true;
             }
-            // A MOVE takes one man at most.
-            if (others > left || stand.menOf(side) == 0) {
+            int man = stand.nextMan(1 - stand.writer);
+            // By one MOVE one man is gone at most.
+            if (man == NONE || others > left || stand.menOf(side) == 0) {
                 return false;
             }
-            int man = stand.nextMan(1 - stand.writer);
             listing.begin(stand.board, stand.at, man, longest);
             for (int k = 0; k < listed && listing.next(); k++) {
                 ends[left][k] = listing.reached();

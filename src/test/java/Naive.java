@@ -203,9 +203,7 @@ final class Naive {
     long bitsOf(Set<Integer> fields) {
         long bits = 0;
         for (int field : fields) {
-            if (fields != pits || !walls.contains(field)) {
-                bits |= 1L << field;
-            }
+            bits |= 1L << field;
         }
         return bits;
     }

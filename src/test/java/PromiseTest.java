@@ -199,7 +199,7 @@ public final class PromiseTest {
             due("6 board " + what, x.board(0, what), plain[what]);
         }
         x = Talk.with("size 6 2;wall 1 2 1;pit 3 4 2;man 1 0;size 5 3;man 0 14;wall 1;");
-        int[] told = {5, 3, 2, 2, 2};
+        int[] told = {5, 3, 2, 2, 3};
         for (int what = 0; what < 5; what++) {
             due("6 board " + what, x.board(0, what), told[what]);
         }
