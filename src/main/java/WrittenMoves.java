@@ -321,7 +321,7 @@ public final class WrittenMoves {
         }
         for (int d = 1; d <= Contest.MOST_LEFT; d++) {
             contest.begin(asked, side, n, d);
-            if (contest.isWonWithin(d)) {
+            if (contest.canWrite(d) && contest.isWonWithin(d)) {
                 return d;
             }
         }
@@ -1598,9 +1598,14 @@ public final class WrittenMoves {
             stands[left].begin(board, writer);
         }
 
+        /** Whether a MOVE can be; on a BOARD that is OVER nothing is WON by a RULE. */
+        boolean canWrite(int left) {
+            return !stands[left].isOver();
+        }
+
         /** BEST, behind isWonWithin() so many MOVES; 0, if there is none. */
         long best(int left) {
-            int k = stands[left].isOver() ? NONE : firstGood(left);
+            int k = canWrite(left) ? firstGood(left) : NONE;
             if (k == NONE) {
                 return 0;
             }

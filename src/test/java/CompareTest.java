@@ -323,12 +323,13 @@ public final class CompareTest {
     }
 
     static void contest(WrittenMoves x, Naive naive, String where, int k) {
+        boolean over = new Naive.Stand(naive, 0).over();
         for (int side = 0; side < 2; side++) {
             for (int n = 1; n <= 2; n++) {
                 int soonest = -1;
                 for (int d = 1; d <= (n == 2 && k % 6 != 0 ? 2 : 3); d++) {
                     boolean won = Naive.wins(new Naive.Stand(naive, side), side, Naive.rules(n), d, new HashMap<>());
-                    soonest = won && soonest < 0 ? d : soonest;
+                    soonest = won && soonest < 0 && !over ? d : soonest;
                     String call = where + "wins " + side + " " + n + " " + d;
                     Talk.due(call, x.wins(0, side, n, d, 0), won ? 1 : 0);
                     String best = won ? naive.best(side, n, d) : null;

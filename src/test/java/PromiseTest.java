@@ -616,8 +616,13 @@ public final class PromiseTest {
         x = Talk.with("size 2 2;man 0 0;");
         due("25 over at first", x.wins(0, 0, 1, 1, 0), 1);
         due("25 no rule then", x.wins(0, 0, 1, 1, 1), NONE);
-        due("26 over at first", x.soonest(0, 0, 1), 1);
         due("25 over at first", x.wins(0, 1, 1, 1, 0), 0);
+        for (String over : new String[] {"", "man 0 0;", "man 1 0;", "man 0 0;man 0 3;", "pit 1;man 1 2;man 1 0;"}) {
+            x = Talk.with(over);
+            for (int k = 0; k < 4; k++) {
+                due("26 over at first: " + over, x.soonest(0, k % 2, 1 + k / 2), NONE);
+            }
+        }
     }
 
     static void promise27() {
