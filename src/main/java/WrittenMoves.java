@@ -306,8 +306,7 @@ public final class WrittenMoves {
         if (!canContest(asked, side, n) || d < 1 || d > Contest.MOST_LEFT || what < 0 || what > 3) {
             return NO_SUCH;
         }
-        contest.begin(asked, side, n, d);
-        boolean won = contest.isWonWithin(d);
+        boolean won = contest.isWonFrom(asked, side, n, d);
         if (what == 0) {
             return won ? 1 : 0;
         }
@@ -320,8 +319,7 @@ public final class WrittenMoves {
             return NONE;
         }
         for (int d = 1; d <= Contest.MOST_LEFT; d++) {
-            contest.begin(asked, side, n, d);
-            if (contest.canWrite(d) && contest.isWonWithin(d)) {
+            if (contest.isWonFrom(asked, side, n, d)) {
                 return d;
             }
         }
@@ -1591,21 +1589,21 @@ public final class WrittenMoves {
             }
         }
 
-        void begin(Board board, int writer, int most, int left) {
+        /**
+         * Whether a SIDE, whose turn it is, WINS within so many MOVES. On a BOARD that is OVER from
+         * the beginning it does not, whoever lacks men: no MOVE can be, so it can't write to WIN.
+         */
+        boolean isWonFrom(Board board, int writer, int most, int left) {
             side = writer;
             longest = most;
             listed = most == 1 ? LISTED_SIGNS : MOST_LISTED;
             stands[left].begin(board, writer);
+            return !stands[left].isOver() && isWonWithin(left);
         }
 
-        /** Whether a MOVE can be; on a BOARD that is OVER nothing is WON by a RULE. */
-        boolean canWrite(int left) {
-            return !stands[left].isOver();
-        }
-
-        /** BEST, behind isWonWithin() so many MOVES; 0, if there is none. */
+        /** BEST of what isWonFrom() found WON within so many MOVES. */
         long best(int left) {
-            int k = canWrite(left) ? firstGood(left) : NONE;
+            int k = firstGood(left);
             if (k == NONE) {
                 return 0;
             }

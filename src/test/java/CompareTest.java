@@ -328,8 +328,9 @@ public final class CompareTest {
             for (int n = 1; n <= 2; n++) {
                 int soonest = -1;
                 for (int d = 1; d <= (n == 2 && k % 6 != 0 ? 2 : 3); d++) {
-                    boolean won = Naive.wins(new Naive.Stand(naive, side), side, Naive.rules(n), d, new HashMap<>());
-                    soonest = won && soonest < 0 && !over ? d : soonest;
+                    boolean won = !over
+                        && Naive.wins(new Naive.Stand(naive, side), side, Naive.rules(n), d, new HashMap<>());
+                    soonest = won && soonest < 0 ? d : soonest;
                     String call = where + "wins " + side + " " + n + " " + d;
                     Talk.due(call, x.wins(0, side, n, d, 0), won ? 1 : 0);
                     String best = won ? naive.best(side, n, d) : null;

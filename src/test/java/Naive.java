@@ -349,9 +349,6 @@ final class Naive {
     String best(int side, int n, int d) {
         Map<String, Boolean> known = new HashMap<>();
         Stand stand = new Stand(this, side);
-        if (stand.over()) {
-            return null;
-        }
         List<String> rules = rules(n);
         for (String rule : rules) {
             if (winsBy(stand, side, rule, rules, d, known)) {

@@ -613,14 +613,16 @@ public final class PromiseTest {
         due("26 other n", x.soonest(0, 0, 3), NONE);
         x = Talk.with("size 2 2;man 0 0;man 1 3;");
         due("26 by none", x.soonest(0, 0, 2), NONE);
-        x = Talk.with("size 2 2;man 0 0;");
-        due("25 over at first", x.wins(0, 0, 1, 1, 0), 1);
-        due("25 no rule then", x.wins(0, 0, 1, 1, 1), NONE);
-        due("25 over at first", x.wins(0, 1, 1, 1, 0), 0);
         for (String over : new String[] {"", "man 0 0;", "man 1 0;", "man 0 0;man 0 3;", "pit 1;man 1 2;man 1 0;"}) {
             x = Talk.with(over);
             for (int k = 0; k < 4; k++) {
                 due("26 over at first: " + over, x.soonest(0, k % 2, 1 + k / 2), NONE);
+                for (int d = 1; d <= 3; d++) {
+                    due("25 over at first: " + over, x.wins(0, k % 2, 1 + k / 2, d, 0), 0);
+                    for (int what = 1; what <= 3; what++) {
+                        due("25 no rule then: " + over, x.wins(0, k % 2, 1 + k / 2, d, what), NONE);
+                    }
+                }
             }
         }
     }
