@@ -306,7 +306,8 @@ public final class WrittenMoves {
         if (!canContest(asked, side, n) || d < 1 || d > Contest.MOST_LEFT || what < 0 || what > 3) {
             return NO_SUCH;
         }
-        boolean won = contest.isWonFrom(asked, side, n, d);
+        contest.begin(asked, side, n, d);
+        boolean won = contest.isWonWithin(d);
         if (what == 0) {
             return won ? 1 : 0;
         }
@@ -319,7 +320,8 @@ public final class WrittenMoves {
             return NONE;
         }
         for (int d = 1; d <= Contest.MOST_LEFT; d++) {
-            if (contest.isWonFrom(asked, side, n, d)) {
+            contest.begin(asked, side, n, d);
+            if (contest.isWonWithin(d)) {
                 return d;
             }
         }
@@ -1589,19 +1591,14 @@ public final class WrittenMoves {
             }
         }
 
-        /**
-         * Whether a SIDE, whose turn it is, WINS within so many MOVES. On a BOARD that is OVER from
-         * the beginning it does not, whoever lacks men: no MOVE can be, so it can't write to WIN.
-         */
-        boolean isWonFrom(Board board, int writer, int most, int left) {
+        void begin(Board board, int writer, int most, int left) {
             side = writer;
             longest = most;
             listed = most == 1 ? LISTED_SIGNS : MOST_LISTED;
             stands[left].begin(board, writer);
-            return !stands[left].isOver() && isWonWithin(left);
         }
 
-        /** BEST of what isWonFrom() found WON within so many MOVES. */
+        /** BEST of what isWonWithin() found WON by so many MOVES. */
         long best(int left) {
             int k = firstGood(left);
             if (k == NONE) {
@@ -1614,16 +1611,12 @@ public final class WrittenMoves {
             return withSign(withSign(0, pair / LISTED_SIGNS), pair % LISTED_SIGNS);
         }
 
-        /** Whether it is WON from where it stands with so many MOVES left. */
-        private boolean isWonWithin(int left) {
+        /** Whether it can be WON by MOVES from where it stands, so many being left. */
+        boolean isWonWithin(int left) {
             Stand stand = stands[left];
-            int others = stand.menOf(1 - side);
-            if (others == 0) {
-                return true;
-            }
             int man = stand.nextMan(1 - stand.writer);
-            // By one MOVE one man is gone at most.
-            if (man == NONE || others > left || stand.menOf(side) == 0) {
+            // Where it is OVER no MOVE can be, whoever lacks men; by one MOVE one man is gone at most.
+            if (man == NONE || stand.isOver() || stand.menOf(1 - side) > left) {
                 return false;
             }
             listing.begin(stand.board, stand.at, man, longest);
@@ -1672,7 +1665,8 @@ public final class WrittenMoves {
             if (known[left][field] == 0 && left > 0) {
                 stands[left - 1].copy(stands[left]);
                 stands[left - 1].make(field == NO_FIELD ? NONE : field);
-                known[left][field] = isWonWithin(left - 1) ? WON : NOT_WON;
+                boolean won = stands[left - 1].menOf(1 - side) == 0 || isWonWithin(left - 1);
+                known[left][field] = won ? WON : NOT_WON;
             }
             return known[left][field] == WON;
         }
