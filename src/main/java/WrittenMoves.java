@@ -228,9 +228,12 @@ public final class WrittenMoves {
 
     public int fatal(int board, int game, int k, boolean sign) {
         Game played = told.gameAt(game);
-        if (played == null || play.follow(told.boardAt(board), played, k) != k) {
+        // A MOVE that can't be made nobody do anything: nothing in it would have made him fall.
+        if (played == null || !played.hasMove(k)
+                || play.follow(told.boardAt(board), played, k + 1) <= k) {
             return NONE;
         }
+        play.follow(told.boardAt(board), played, k);
         int found = play.fatalOf(played, k);
         if (found == NONE) {
             return NONE;
@@ -240,8 +243,13 @@ public final class WrittenMoves {
 
     public boolean loses(int board, int game, int k) {
         Game played = told.gameAt(game);
-        return played != null && play.follow(told.boardAt(board), played, k) == k
-            && play.losesBy(played, k);
+        // The FIELD of a MOVE that can't be was chosen by nobody.
+        if (played == null || !played.hasMove(k)
+                || play.follow(told.boardAt(board), played, k + 1) <= k) {
+            return false;
+        }
+        play.follow(told.boardAt(board), played, k);
+        return play.losesBy(played, k);
     }
 
     public int brave(int board, int game, int side) {
@@ -456,6 +464,11 @@ public final class WrittenMoves {
             return NONE;
         }
 
+        /** A FIELD told as a WALL and as a PIT is a WALL, whichever was told first. */
+        void settle() {
+            pits &= ~walls;
+        }
+
         /** Whether all FIELDS told of are there, and every man stands on a free one of his own. */
         boolean isSound() {
             long all = bit(width * height) - 1;
@@ -617,6 +630,7 @@ public final class WrittenMoves {
             for (int line = 0; line < MOST_BYTES && good && kind != END; line++) {
                 good = sort == BOARDS ? readBoardLine() : readGameLine();
             }
+            board.settle();
             if (!good) {
                 fault = 1;
                 place = start;
@@ -1496,7 +1510,7 @@ public final class WrittenMoves {
 
         /** FATAL of a MOVE that it stands ahead of: ten times the place, and the SIGN; or NONE. */
         int fatalOf(Game game, int k) {
-            if (!game.hasMove(k) || stand.isOver()) {
+            if (!game.hasMove(k)) {
                 return NONE;
             }
             long rule = game.rules[k];
@@ -1515,7 +1529,7 @@ public final class WrittenMoves {
 
         /** LOSES of a MOVE that it stands ahead of. */
         boolean losesBy(Game game, int k) {
-            if (!game.hasMove(k) || game.fields[k] == NONE || stand.isOver()) {
+            if (!game.hasMove(k) || game.fields[k] == NONE) {
                 return false;
             }
             long ends = reached(game.rules[k], game.ruleAhead(k));
@@ -1579,6 +1593,8 @@ public final class WrittenMoves {
         private final long[][] ends = new long[MOST_LEFT + 1][MOST_LISTED];
         /** By FIELD gone to: 0, while it is not known whether that is WON. */
         private final int[][] known = new int[MOST_LEFT + 1][MOST_FIELDS + 1];
+        /** The place of the first RULE by which the writer WINS; NONE without. */
+        private final int[] good = new int[MOST_LEFT + 1];
         private int side;
         private int listed;
         private int longest;
@@ -1600,7 +1616,7 @@ public final class WrittenMoves {
 
         /** BEST of what isWonWithin() found WON by so many MOVES. */
         long best(int left) {
-            int k = firstGood(left);
+            int k = good[left];
             if (k == NONE) {
                 return 0;
             }
@@ -1615,6 +1631,7 @@ public final class WrittenMoves {
         boolean isWonWithin(int left) {
             Stand stand = stands[left];
             int man = stand.nextMan(1 - stand.writer);
+            good[left] = NONE;
             // Where it is OVER no MOVE can be, whoever lacks men; by one MOVE one man is gone at most.
             if (man == NONE || stand.isOver() || stand.menOf(1 - side) > left) {
                 return false;
@@ -1626,17 +1643,17 @@ public final class WrittenMoves {
             for (int field = 0; field <= NO_FIELD; field++) {
                 known[left][field] = 0;
             }
-            return stand.writer == side ? firstGood(left) != NONE : allGood(left);
+            return stand.writer == side ? someGood(left) : allGood(left);
         }
 
-        /** The place of the first RULE by which the writer WINS; NONE without. */
-        private int firstGood(int left) {
+        private boolean someGood(int left) {
             for (int k = 0; k < listed; k++) {
                 if (winsBehind(left, ends[left][k], false)) {
-                    return k;
+                    good[left] = k;
+                    return true;
                 }
             }
-            return NONE;
+            return false;
         }
 
         private boolean allGood(int left) {

@@ -199,14 +199,24 @@ public final class PromiseTest {
             due("6 board " + what, x.board(0, what), plain[what]);
         }
         x = Talk.with("size 6 2;wall 1 2 1;pit 3 4 2;man 1 0;size 5 3;man 0 14;wall 1;");
-        int[] told = {5, 3, 2, 2, 3};
+        int[] told = {5, 3, 2, 2, 2};
         for (int what = 0; what < 5; what++) {
             due("6 board " + what, x.board(0, what), told[what]);
         }
+        walledPits("wall 1;pit 1;", 1, 0);
+        walledPits("pit 1;wall 1;", 1, 0);
+        walledPits("pit 1 2 3;wall 3 4;pit 4 5;wall 2;", 3, 2);
         due("6 other", x.board(0, 5), NONE);
         due("6 other", x.board(0, -1), NONE);
         due("6 none", x.board(1, 0), NONE);
         due("6 none", x.board(-1, 0), NONE);
+    }
+
+    static void walledPits(String board, int walls, int pits) {
+        WrittenMoves x = Talk.with(board);
+        due("6 walls of " + board, x.board(0, 3), walls);
+        due("6 pits of " + board, x.board(0, 4), pits);
+        due("7 walled pit of " + board, x.field(0, 1), board.contains("wall 1") ? 1 : 2);
     }
 
     static void promise7And8() {
@@ -452,9 +462,17 @@ public final class PromiseTest {
         due("17 sign", x.fatal(0, 0, 1, true), 2);
         x = playing("size 3 3;man 0 0;man 1 8;pit 6;", "say wb go 7;say n;", "n");
         due("17 a move that can't be", x.stop(0, 0), 0);
-        due("17 place up to stop", x.fatal(0, 0, 0, false), 1);
-        due("17 sign up to stop", x.fatal(0, 0, 0, true), 3);
+        due("17 place of a move that can't be", x.fatal(0, 0, 0, false), NONE);
+        due("17 sign of a move that can't be", x.fatal(0, 0, 0, true), NONE);
         due("17 behind stop", x.fatal(0, 0, 1, false), NONE);
+        x = playing("size 3 3;man 0 0;man 1 8;pit 6;", "say wb;say n;say n go 5;", "n");
+        due("17 a move without a field can be", x.stop(0, 0), 1);
+        due("17 place ahead of stop", x.fatal(0, 0, 0, false), 1);
+        due("17 sign ahead of stop", x.fatal(0, 0, 0, true), 3);
+        due("17 at stop", x.fatal(0, 0, 1, false), NONE);
+        due("17 behind stop", x.fatal(0, 0, 2, false), NONE);
+        due("17 far", x.fatal(0, 0, Integer.MAX_VALUE, false), NONE);
+        due("17 far below", x.fatal(0, 0, Integer.MIN_VALUE, false), NONE);
         due("17 none", x.fatal(0, 0, 2, false), NONE);
         due("17 none", x.fatal(0, 0, -1, false), NONE);
         due("17 none", x.fatal(1, 0, 0, false), NONE);
@@ -476,7 +494,16 @@ public final class PromiseTest {
         due("18 no field", playing(board, "say x;say n;").loses(0, 0, 0), false);
         WrittenMoves x = playing(board, "say a go 6;say a go 1;");
         due("18 move 1", x.loses(0, 0, 1), false);
+        x = playing(board, "say a go 6;say e go 2;say a go 1;");
+        due("18 a move that can't be", x.stop(0, 0), 1);
+        due("18 a field that is no end", x.loses(0, 0, 1), false);
+        due("18 behind stop", x.loses(0, 0, 2), false);
+        x = playing(board, "say a go 5;");
+        due("18 to stay where he can't", x.loses(0, 0, 0), false);
+        x = playing(board, "say a go 6;say a go 1;");
         due("18 none", x.loses(0, 0, 2), false);
+        due("18 far", x.loses(0, 0, Integer.MAX_VALUE), false);
+        due("18 far below", x.loses(0, 0, Integer.MIN_VALUE), false);
         due("18 none", x.loses(0, 0, -1), false);
         due("18 none", x.loses(1, 0, 0), false);
         due("18 none", x.loses(0, 1, 0), false);
