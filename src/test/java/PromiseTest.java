@@ -452,6 +452,19 @@ public final class PromiseTest {
         x = playing("size 3 3;man 0 6;man 1 8;", "say ng go 5;", "auq", "aq");
         due("16 each path by itself", x.may(0, 0, 1, 0), Talk.bits(0, 7));
         due("16 without u", x.may(0, 0, 1, 1), Talk.bits(0));
+        // He takes on 7, falls from 1 to 0, goes from 5 to 4, and can't from 3: all these are ENDS.
+        x = playing("size 3 3;man 0 4;man 1 8;pit 0;", "say w go 7;", "auq");
+        due("16 what ended ahead of q stays", x.may(0, 0, 1, 0), Talk.bits(0, 3, 4, 7));
+        // Of a longer GAME in its place before nothing is left.
+        x = playing("size 6 6;man 0 14;man 1 35;", "say w go 34;say n go 8;say n go 28;", "n");
+        due("16 a shorter game", Talk.tell(x, 2, 0, "say w go 34;"), 0);
+        due("16 stop", x.stop(0, 0), 1);
+        due("16 last state", x.may(0, 0, 1, 0), Talk.bits(8));
+        for (int n = 2; n <= 4; n++) {
+            due("16 behind the game", x.may(0, 0, n, 0), NONE);
+            due("15 behind the game", x.state(0, 0, n, 0), -2);
+            due("17 behind the game", x.fatal(0, 0, n - 1, false), NONE);
+        }
         due("16 over", playing("man 0 0;", "", "n").may(0, 0, 0, 0), NONE);
     }
 
