@@ -43,6 +43,7 @@ public final class BoundaryTest {
         feeding();
         ending();
         telling();
+        eachOfSeveral();
         noneSuch();
         otherWhats();
         images();
@@ -467,7 +468,13 @@ public final class BoundaryTest {
         due("ue can't from there", ends(board, 0, "xeue"), bits(16));
         due("ua in one way", ends("size 2 2;man 0 0;wall 1;", 0, "ua"), bits(2));
         due("ua in none", ends("size 2 2;man 0 0;wall 1;man 0 2;", 0, "ua"), bits(0));
+        int[] next = {1, 5, 7, 3};
+        for (int k = 0; k < 4; k++) {
+            String walls = "wall " + next[(k + 1) % 4] + " " + next[(k + 2) % 4] + " " + next[(k + 3) % 4] + ";";
+            due("ua, one side alone", ends("size 3 3;man 0 4;" + walls, 0, "ua"), bits(next[k]));
+        }
         due("ut without WAY", ends(board, 0, "ut"), bits(14));
+        due("ut without WAY, from FIELD 0", ends("size 2 2;man 0 0;", 0, "ut"), bits(0));
         due("ut, none is enough", ends(board, 0, "ntut"), bits(2));
         due("ut with WAY must", ends(board, 0, "eut"), bits(16));
         due("ub, none beside", ends(board, 0, "ub"), bits(14));
@@ -560,6 +567,25 @@ public final class BoundaryTest {
         may(x, 1, "suq", bits(20));
         may(x, 1, "xq", bits(0));
         may(x, 1, "sxuq", bits(20));
+        may(x, 1, "uqs", 0);
+        may(x, 1, "uqw", bits(6));
+        // Of one that stayed nothing stays for the next.
+        x = playing("size 3 3;man 0 4;man 1 8;wall 3;", "say w go 7;", "uq");
+        due("it can't be", x.may(0, 0, 1, 0), bits(4));
+        due("another GAME", Talk.tell(x, 2, NONE, "say n go 5;"), 1);
+        due("it can be", x.may(0, 1, 1, 0), bits(1));
+        // One whose number is not his SIDE's goes back to his own FIELD; the others are in the way.
+        x = playing("size 3 3;man 1 4;man 1 8;man 0 0;man 0 1;", "", "n");
+        due("NEXT of SIDE 1", x.state(0, 0, 0, 21), 0);
+        may(x, 0, "ew", bits(4));
+        x = playing("size 3 3;man 0 4;man 0 7;man 0 3;man 1 8;", "say n go 5;", "n");
+        may(x, 0, "ns", bits(8));
+        may(x, 1, "ns", bits(4));
+        may(x, 1, "a", bits(1, 5));
+        x = playing("size 2 2;man 0 0;man 1 3;", "say w go 2;", "n");
+        may(x, 1, "uq", bits(0));
+        may(x, 1, "q", 0);
+        may(x, 1, "eq", bits(0));
     }
 
     private static void may(WrittenMoves x, int n, String rule, long want) {
@@ -587,10 +613,40 @@ public final class BoundaryTest {
         due("PATH then", x.path(0, 0, 0, 0, NONE), NONE);
         due("x makes more", x.ways(0, 0, 1, 2), 256);
         due("q makes none", x.ways(0, 0, 2, 2), 1);
+        String corner = "size 3 3;man 0 4;man 1 2;";
+        ways(corner, "ab", 0, 1, 0, 0, 0, 1, 0, 0, 0);
+        ways(corner, "ag", 0, 0, 0, 1, 0, 0, 0, 1, 0);
+        ways(corner, "aba", 1, 0, 2, 0, 2, 0, 0, 0, 1);
+        ways(corner, "aga", 1, 0, 0, 0, 2, 0, 2, 0, 1);
+        String walled = "size 3 3;man 0 4;wall 5;";
+        ways(walled, "xe", 0, 0, 0, 0, 0, 0, 0, 0, 0);
+        ways(walled, "xn", 0, 0, 0, 0, 0, 0, 0, 0, 0);
+        ways(walled, "ue", 0, 0, 0, 0, 1, 0, 0, 0, 0);
+        ways(walled, "uea", 0, 1, 0, 1, 0, 0, 0, 1, 0);
+        ways(walled, "auw", 1, 0, 0, 1, 0, 0, 1, 0, 0);
+        ways(walled, "uaw", 1, 0, 0, 0, 0, 0, 1, 0, 0);
+        ways(walled, "ut", 0, 0, 0, 0, 1, 0, 0, 0, 0);
+        ways(walled, "t", 0, 0, 0, 0, 0, 0, 0, 0, 0);
+        ways(walled, "att", 0, 1, 0, 1, 0, 0, 0, 1, 0);
+        ways(walled, "ubugxu", 0, 0, 0, 0, 1, 0, 0, 0, 0);
+        String among = "size 2 6;man 0 6;man 0 4;man 1 7;pit 10;wall 9;";
+        ways(among, "a", 0, 0, 0, 0, 0, 0, 0, 1, 1, 0, 0, 0);
+        ways(among, "ua", 0, 0, 0, 0, 0, 0, 0, 1, 1, 0, 0, 0);
+        ways(among, "aa", 0, 0, 0, 0, 0, 0, 1, 1, 0, 0, 1, 0);
+        ways(among, "sat", 0, 0, 0, 0, 0, 0, 1, 0, 0, 0, 1, 0);
+        ways("size 2 6;man 1 10;man 1 11;man 0 8;", "a", 0, 0, 0, 0, 0, 0, 0, 0, 1, 0, 0, 0);
         x = Talk.with("size 6 6;man 0 14;", "xaxaxaxaa");
         due("many WAYS", x.ways(0, 0, 0, 15), manyWays(14, 15, 9));
         x = Talk.with("size 3 3;man 0 0;man 1 1;", "aaaa");
         due("PATHS that TOOK are one", x.ways(0, 0, 0, 1), 1 + 2);
+    }
+
+    private static void ways(String board, String rule, int... want) {
+        WrittenMoves x = Talk.with(board, rule);
+        for (int field = 0; field < want.length; field++) {
+            due("WAYS to " + field + " by " + rule + " on " + board, x.ways(0, 0, 0, field), want[field]);
+            due("END " + field + " by " + rule + " on " + board, x.ends(0, 0, 0) >>> field & 1, want[field] > 0 ? 1 : 0);
+        }
     }
 
     private static long manyWays(int from, int to, int steps) {
@@ -621,6 +677,18 @@ public final class BoundaryTest {
         path("size 6 2;man 0 0;man 1 9;", "at", 6, 0, 6);
         path("size 6 2;man 0 0;man 1 9;", "atatat", 9, 0, 6, 7, 8, 9);
         path("size 6 2;man 0 0;wall 6;", "uset", 5, 0, 1, 2, 3, 4, 5);
+        path("size 3 3;man 0 4;man 1 2;", "ab", 1, 4, 1);
+        path("size 3 3;man 0 4;man 1 2;", "ag", 3, 4, 3);
+        path("size 3 3;man 0 4;man 1 2;", "agab", 8);
+        path("size 6 6;man 0 14;", "ng", 8, 14, 8);
+        path("size 6 2;man 0 0;pit 3;", "et", 3, 0, 1, 2, 3);
+        path("size 2 6;man 0 0;man 0 5;man 1 10;", "ata", 10, 0, 2, 4, 6, 8, 10);
+        path("size 6 6;man 0 14;", "euxgueg", 16, 14, 15, 16);
+        path("size 3 3;man 0 4;man 1 2;", "agua", 8, 4, 7, 8);
+        // Of as few STEPS the first by sides, though the other one FALLS SIGNS ahead of it.
+        for (String rule : new String[] {"agata", "agatga", "agatuea", "agatta"}) {
+            path("size 4 4;wall 3 5;pit 8 14;man 0 7;", rule, 14, 7, 11, 15, 14);
+        }
         path("size 6 6;man 0 0;", "etstwtnte", 1, 0, 1, 2, 3, 4, 5, 11, 17, 23, 29, 35, 34, 33, 32, 31, 30,
             24, 18, 12, 6, 0, 1);
     }
@@ -887,12 +955,37 @@ public final class BoundaryTest {
         due("one of SIDE 0 is in the way", x.alike(0, 2, 0), true);
         due("BOARD", Talk.tell(x, 0, 0, "size 2 2;wall 2;man 1 1;man 1 3;"), 0);
         due("one of SIDE 1 is TAKEN", x.alike(0, 2, 0), false);
+        x = Talk.with("size 3 3;", "x", "qn", "n");
+        due("q is nothing", x.alike(0, 1, 2), true);
+        due("q is nothing", x.alike(0, 2, 1), true);
+        due("x is not n", x.alike(0, 0, 2), false);
+        due("BOARD", Talk.tell(x, 0, 0, "size 2 2;man 1 0;wall 1 2 3;"), 0);
+        due("from none", x.alike(0, 0, 2), true);
+        // Where he could stand is in all rows, whichever of width and height is greater.
+        x = Talk.with("size 2 6;wall 0 1 2 3 4 5 6 7 8 9;", "e", "n");
+        due("unlike in the last row", x.alike(0, 0, 1), false);
+        due("BOARD", Talk.tell(x, 0, 0, "size 6 2;wall 0 1 2 3 6 7 8 9;"), 0);
+        due("unlike in the last columns", x.alike(0, 0, 1), false);
+        x = Talk.with("size 2 2;man 0 3;wall 1 2;");
+        due("REACH shut in, not FIELD 0", x.meanings(0, 0, 4, true), 1);
         x = Talk.with("size 2 2;man 0 0;");
         int[] unlike = {5, 7, 11, 12};
         int[] reach = {3, 4, 4, 4};
         for (int n = 1; n <= 4; n++) {
             due("MEANINGS by " + n, x.meanings(0, 0, n, false), unlike[n - 1]);
             due("REACH by " + n, x.meanings(0, 0, n, true), reach[n - 1]);
+        }
+        // Counted once by the plain model; asked twice, as nothing may stay of the first time.
+        x = Talk.with("size 5 6;pit 0 1 16;man 0 17;man 1 13;man 1 26;man 1 8;man 0 9;man 0 22;");
+        int[][] many = {{6, 20, 74, 296}, {6, 23, 91, 384}, {6, 18, 57, 157}, {6, 19, 53, 178}, {6, 19, 61, 162},
+            {6, 22, 84, 278}};
+        int[][] reached = {{4, 10, 18, 23}, {4, 12, 21, 26}, {4, 9, 13, 17}, {4, 9, 14, 17}, {4, 8, 13, 17},
+            {4, 10, 15, 18}};
+        for (int asked = 0; asked < 48; asked++) {
+            int man = asked / 2 % 6;
+            int n = 1 + asked / 12;
+            due("MEANINGS of " + man + " by " + n, x.meanings(0, man, n, false), many[man][n - 1]);
+            due("REACH of " + man + " by " + n, x.meanings(0, man, n, true), reached[man][n - 1]);
         }
         x = Talk.with("size 2 2;man 0 0;wall 1 2;");
         due("MEANINGS shut in: none and his own", x.meanings(0, 0, 4, false), 2);
@@ -920,6 +1013,29 @@ public final class BoundaryTest {
             x = Talk.with("size 6 2;" + mine + "11;" + theirs + "0;" + theirs + "2;pit 1;");
             wins(x, side, 1, "-1", "-1", "e");
             due("SOONEST of two", x.soonest(0, side, 1), 3);
+            // The other one writes n, e, s, w, whatever makes the only man of his FALL.
+            int[] mines = {9, 6, 2, 11};
+            int[] falls = {3, 7, 8, 10};
+            int[] from = {0, 4, 11, 0};
+            int[] own = {2, 2, 9, 2};
+            for (int k = 0; k < 4; k++) {
+                String start = "size 6 2;" + mine + mines[k] + ";" + theirs + from[k] + ";pit " + own[k];
+                x = Talk.with(start + ";");
+                wins(x, side, 1, "-1", "-1", k == 1 || k == 2 ? "w" : "e");
+                x = Talk.with(start + " " + falls[k] + ";");
+                wins(x, side, 1, "-1", "-1", "-1");
+            }
+            // He FALLS in FIELD 6, while by the RULES ahead he can't obey.
+            x = Talk.with("size 6 2;" + mine + "11;" + theirs + "0;pit 6;");
+            wins(x, side, 1, "s", "s", "s");
+            // Asked of one BOARD, then of another.
+            x = Talk.with("size 2 3;" + mine + "5;" + theirs + "4;pit 0;");
+            wins(x, side, 2, "nn", "nn", "n");
+            due("BOARD", Talk.tell(x, 0, NONE, "size 2 3;" + mine + "5;" + theirs + "4;"), 1);
+            due("the other BOARD", x.wins(1, side, 2, 1, 0), 0);
+            due("SOONEST on the other BOARD", x.soonest(1, side, 2), NONE);
+            x = Talk.with("size 4 4;pit 1;" + theirs + "0;");
+            due("OVER, though by one MOVE he would FALL", x.wins(0, side, 1, 1, 0), 0);
             // Of three one is left behind three MOVES.
             x = Talk.with("size 6 2;" + mine + "11;" + theirs + "0;" + theirs + "2;" + theirs + "7;pit 1;");
             wins(x, side, 1, "-1", "-1", "-1");
@@ -977,6 +1093,7 @@ public final class BoundaryTest {
         fatal(quoted, "say x go 8;say x go 4;", 1, NONE, NONE);
         fatal(quoted, "say w go 7;say qn go 0;", 1, 0, 3);
         fatal(quoted, "say w go 7;say qe go 4;", 1, 1, 0);
+        fatal("size 6 6;man 0 14;man 1 35;pit 7;", "say nw go 28;say x go 14;", 1, NONE, NONE);
     }
 
     private static void fatal(String board, String game, int k, int place, int sign) {
@@ -1041,6 +1158,7 @@ public final class BoundaryTest {
         brave(board, "say xe go 4;say x go 0;say x go 8;say w go 9;say e go 5;", 0, 1);
         brave(board, "say xe go 3;say xe go 2;", 0, 0);
         brave(board, "say x go 2;say x go 0;say x go 8;say t;say xe go 4;", 0, 0);
+        brave(board, "say xw go 0;say t;", 0, 1);
         brave("size 2 2;man 0 0;man 1 1;man 0 2;man 0 3;", "say w go 0;say w go 2;", 0, 1);
         brave("size 2 2;man 0 0;man 1 1;man 0 2;man 0 3;", "say w go 0;say x go 2;say s go 2;say x go 3;say e go 3;", 0, 1);
     }
@@ -1049,6 +1167,9 @@ public final class BoundaryTest {
         WrittenMoves x = playing(board, game);
         due("BRAVE of 0 by " + game, x.brave(0, 0, 0), zero);
         due("BRAVE of 1 by " + game, x.brave(0, 0, 1), one);
+        due("another GAME", Talk.tell(x, 2, NONE, "say x go 2;"), 1);
+        due("BRAVE of 0 in another", x.brave(0, 1, 0), 0);
+        due("BRAVE of 1 in another", x.brave(0, 1, 1), 0);
     }
 
     /** DRAWN: so many MOVES, 1 to 30, or till it is OVER; each number drawn, anew for each call. */
@@ -1251,7 +1372,82 @@ public final class BoundaryTest {
         due("the first BOARD stays", x.board(0, 1), 3);
     }
 
-    // Promises 6 to 30: what there is none of
+    // Promises 6 to 30: the one that is asked of several, and what there is none of
+
+    /** Each call asks that BOARD, that RULE, that GAME which its numbers say. */
+    static void eachOfSeveral() {
+        WrittenMoves x = playing("size 2 2;man 0 0;man 1 3;", "say n go 1;say e go 1;", "e", "s", "a");
+        due("second BOARD", Talk.tell(x, 0, NONE, "size 3 3;man 0 4;man 1 8;pit 5;wall 3;"), 1);
+        due("second GAME", Talk.tell(x, 2, NONE, "say w go 7;say a go 5;"), 1);
+        // By BOARD, and by RULE, GAME or man where a call has one.
+        int[][] wide = {{2, 2, 2, 0, 0}, {3, 3, 2, 1, 1}};
+        int[][] men = {{0, 3}, {4, 8}};
+        long[][] ends = {{bits(1), bits(2), bits(1, 2)}, {bits(5), bits(7), bits(1, 5, 7)}};
+        long[][] others = {{0, 0, bits(1, 2)}, {0, 0, bits(5, 7)}};
+        int[][] stops = {{2, 0}, {0, 2}};
+        for (int board = 0; board < 2; board++) {
+            for (int what = 0; what < 5; what++) {
+                due("board " + board, x.board(board, what), wide[board][what]);
+            }
+            for (int k = 0; k < 2; k++) {
+                due("man " + k + " of " + board, x.man(board, k, 1), men[board][k]);
+                due("his FIELD of " + board, x.field(board, men[board][k]), 10 + k);
+                due("STOP of " + k + " on " + board, x.stop(board, k), stops[board][k]);
+                due("STATE of " + k + " on " + board, x.state(board, k, 1, 0), stops[board][k] > 0 ? 1 : -2);
+                due("last STATE of " + k + " on " + board, x.state(board, k, 2, 1), stops[board][k] > 0 ? 1 : -2);
+                due("LOSES of " + k + " on " + board, x.loses(board, k, 1), board == 1 && k == 1);
+                due("FATAL of " + k + " on " + board, x.fatal(board, k, 0, true), board == 1 && k == 1 ? 0 : NONE);
+                due("FATAL of " + k + " on " + board, x.fatal(board, k, 1, true), board == 1 && k == 1 ? 1 : NONE);
+                due("BRAVE of 0, " + k + " on " + board, x.brave(board, k, 0), board == 0 && k == 0 ? 1 : 0);
+                due("BRAVE of 1, " + k + " on " + board, x.brave(board, k, 1), 0);
+            }
+            for (int rule = 0; rule < 3; rule++) {
+                due("ENDS by " + rule + " on " + board, x.ends(board, 0, rule), ends[board][rule]);
+                due("other's ENDS by " + rule + " on " + board, x.ends(board, 1, rule), others[board][rule]);
+                due("may by " + rule + " on " + board, x.may(board, board, 1, rule), ends[board][rule]);
+                due("may at first on " + board, x.may(board, 1 - board, 0, rule), others[board][rule]);
+                due("may behind STOP on " + board, x.may(board, 1 - board, 1, rule), NONE);
+            }
+        }
+        due("where he is", x.state(0, 0, 1, 11), 1);
+        due("where he is", x.state(1, 1, 1, 11), 7);
+        due("WAYS", x.ways(1, 0, 2, 7), 1);
+        due("WAYS", x.ways(1, 0, 1, 5), 0);
+        due("WAYS", x.ways(0, 0, 2, 2), 1);
+        due("WAYS, no FIELD there", x.ways(0, 0, 2, 7), NONE);
+        due("PATH", x.path(1, 1, 2, 7, 1), 7);
+        due("PATH", x.path(0, 1, 2, 2, 1), 2);
+        due("PATH, no FIELD there", x.path(0, 0, 2, 7, NONE), NONE);
+        due("RULES", x.rule(0, 0) * 100 + x.rule(1, 0) * 10 + x.rule(2, 0), 124);
+        due("MOVES", x.move(0, 1, 0) * 1000 + x.move(0, 0, 10) * 100 + x.move(1, 1, 0) * 10 + x.move(1, 0, 10), 1053);
+        due("BIND", x.binds(0, 0, 0, 1), 0);
+        due("BIND", x.binds(1, 0, 0, 1), 3);
+        due("DOOM", x.binds(0, 0, 1, 1), NONE);
+        due("DOOM", x.binds(1, 0, 1, 1), 1);
+        due("DOOM", x.binds(1, 1, 1, 1), 0);
+        due("DRIVE", x.drive(0, 1, 2, 1), 3);
+        due("DRIVE", x.drive(1, 1, 2, 0), NONE);
+        due("DRIVE, no FIELD there", x.drive(0, 0, 7, 0), NONE);
+        due("DRIVE", x.drive(1, 0, 7, 1), 2);
+        due("SHORT", x.shorter(1, 0, 1, 1), 2);
+        due("SHORT", x.shorter(0, 1, 1, 1), 1);
+        due("SHORT", x.shorter(1, 0, 2, 1), 4);
+        due("ALIKE", x.alike(0, 0, 1), false);
+        due("ALIKE", x.alike(1, 2, 2), true);
+        due("REACH", x.meanings(0, 0, 1, true), 3);
+        due("REACH", x.meanings(1, 0, 1, true), 4);
+        due("WINS", x.wins(0, 0, 1, 1, 0), 0);
+        due("WINS", x.wins(1, 0, 1, 1, 2), 0);
+        due("WINS", x.wins(1, 1, 1, 1, 2), 1);
+        due("SOONEST", x.soonest(0, 0, 1), NONE);
+        due("SOONEST", x.soonest(1, 1, 1), 1);
+        due("DRAWN", x.drawn(0, 0, 1, 11), 3);
+        due("DRAWN", x.drawn(1, 0, 1, 11), 8);
+        due("image", x.image(0), true);
+        due("another third RULE", Talk.tell(x, 1, 2, "www"), 2);
+        due("again", x.again(0), true);
+        due("the third RULE", x.rule(2, NONE) * 10 + x.rule(2, 0), 14);
+    }
 
     private static int[] bad(int count) {
         int[] bad = new int[OUTSIDE.length + 4];
