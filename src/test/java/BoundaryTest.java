@@ -47,6 +47,7 @@ public final class BoundaryTest {
         noneSuch();
         otherWhats();
         images();
+        nothingChanges();
         Talk.finish("BoundaryTest");
     }
 
@@ -1714,7 +1715,9 @@ public final class BoundaryTest {
 
     private static void tellAll(WrittenMoves x, String board, String rule, String game) {
         due("BOARD", Talk.tell(x, 0, NONE, board) >= 0, true);
-        due("RULE", Talk.tell(x, 1, NONE, rule) >= 0, true);
+        if (rule != null) {
+            due("RULE", Talk.tell(x, 1, NONE, rule) >= 0, true);
+        }
         due("GAME", Talk.tell(x, 2, NONE, game) >= 0, true);
     }
 
@@ -1745,5 +1748,96 @@ public final class BoundaryTest {
         due("MOVE 0", x.move(0, 0, 0), 1);
         due("MOVE 1", x.move(0, 1, 0), NONE);
         due("its SIGN", x.move(0, 1, 10), 10);
+    }
+
+    /** A call that asks, or that is refused, leaves all that is told as it was. */
+    static void nothingChanges() {
+        WrittenMoves x = playing("size 2 3;man 0 0;man 1 5;pit 3;", "say n go 3;", "aq", "e", "nt");
+        tellAll(x, "size 6 6;man 1 0;man 0 35;", null, "say xwt go 4;say q;");
+        due("a FAULT", Talk.tell(x, 0, 0, "size 2 7;"), NONE);
+        Talk.put(x, 0, "say uq go 7;");
+        due("image", x.image(1), true);
+        long all = allTold(x);
+        int[] odd = {Integer.MIN_VALUE, -2, -1, 0, 1, 2, 3, 4, 30, 36, Integer.MAX_VALUE};
+        for (int one : odd) {
+            refused(x, one);
+            due("behind refused calls by " + one, allTold(x), all);
+            for (int two : odd) {
+                asking(x, one, two);
+            }
+            due("behind asking by " + one, allTold(x), all);
+        }
+        due("the image stays", x.again(1), true);
+        due("behind its image", allTold(x), all);
+        due("tape", x.text(2, 0), 0);
+        due("told by it", x.move(0, 0, 0), 7);
+    }
+
+    private static void refused(WrittenMoves x, int number) {
+        if (number < 0 || number > 12) {
+            due("end " + number, x.end(number), NONE);
+        }
+        if (number < 0 || number > 2) {
+            due("image " + number, x.image(number), false);
+            due("count " + number, x.count(number), -2);
+        }
+        // 0 is taken for the tape, 1 is asked for at the end.
+        if (number != 0 && number != 1) {
+            due("again " + number, x.again(number), false);
+        }
+    }
+
+    private static void asking(WrittenMoves x, int one, int two) {
+        x.fault(one);
+        x.board(one, two);
+        x.field(one, two);
+        x.rule(one, two);
+        x.stop(one, two);
+        for (int k = 0; k < 2; k++) {
+            x.man(k, one, two);
+            x.ends(k, one, two);
+            x.move(k, one, two);
+            x.brave(k, one, two);
+            x.loses(k, one, two);
+            x.alike(k, one, two);
+            x.meanings(k, one, two, k == 0);
+            x.soonest(k, one, two);
+            x.ways(k, k, one, two);
+            x.path(k, k, 0, one, two);
+            x.state(k, k, one, two);
+            x.may(k, k, one, two);
+            x.fatal(k, k, one, two > 0);
+            x.binds(k, k, one, two);
+            x.drive(k, k, one, two);
+            x.shorter(k, k, one, two);
+            x.wins(k, k, 1, one, two);
+            x.drawn(k, one, 30, two);
+        }
+    }
+
+    /** One number of all that can be asked of what is told; the tape, kept by an image, is read, too. */
+    private static long allTold(WrittenMoves x) {
+        long all = x.fault(0) * 31L + x.fault(1);
+        for (int k = 0; k < 3; k++) {
+            all = all * 31 + x.count(k);
+            for (int what = 0; what < 36; what++) {
+                all = all * 31 + x.board(k, what);
+                all = all * 31 + x.field(k, what);
+                all = all * 31 + x.rule(k, what);
+                all = all * 31 + x.man(k, what, 0) + 7 * x.man(k, what, 1);
+                for (int i = 0; i < 12; i++) {
+                    all = all * 31 + x.move(k, i - 1, what);
+                }
+            }
+        }
+        due("image for the tape", x.image(0), true);
+        due("tape", x.end(13), NONE);
+        all = all * 31 + x.text(2, 1);
+        for (int what = 0; what < 15; what++) {
+            all = all * 31 + x.move(1, 0, what);
+        }
+        due("again for the tape", x.again(0), true);
+        due("tape", x.end(12), 12);
+        return all;
     }
 }
