@@ -47,9 +47,9 @@ public final class WrittenMoves {
     private final boolean[] kept = new boolean[IMAGES];
     private final Reader reader = new Reader();
     private final Trace trace = new Trace();
-    private final Listing listing = new Listing();
     private final Play play = new Play();
-    private final Contest contest = new Contest(listing);
+    private final Contest contest = new Contest();
+    private final Listing listing = contest.listing;
 
     public WrittenMoves() {
         for (int k = 0; k < IMAGES; k++) {
@@ -314,8 +314,7 @@ public final class WrittenMoves {
         if (!canContest(asked, side, n) || d < 1 || d > Contest.MOST_LEFT || what < 0 || what > 3) {
             return NO_SUCH;
         }
-        contest.begin(asked, side, n, d);
-        boolean won = contest.isWonWithin(d);
+        boolean won = contest.isWon(asked, side, n, d);
         if (what == 0) {
             return won ? 1 : 0;
         }
@@ -328,8 +327,7 @@ public final class WrittenMoves {
             return NONE;
         }
         for (int d = 1; d <= Contest.MOST_LEFT; d++) {
-            contest.begin(asked, side, n, d);
-            if (contest.isWonWithin(d)) {
+            if (contest.isWon(asked, side, n, d)) {
                 return d;
             }
         }
@@ -1587,36 +1585,38 @@ public final class WrittenMoves {
         private static final int WON = 1;
         private static final int NOT_WON = 2;
 
-        private final Listing listing;
+        /** It serves the calls that ask of one man, too. */
+        final Listing listing = new Listing();
         private final Stand[] stands = new Stand[MOST_LEFT + 1];
         /** ENDS by each RULE. */
         private final long[][] ends = new long[MOST_LEFT + 1][MOST_LISTED];
         /** By FIELD gone to: 0, while it is not known whether that is WON. */
         private final int[][] known = new int[MOST_LEFT + 1][MOST_FIELDS + 1];
-        /** The place of the first RULE by which the writer WINS; NONE without. */
-        private final int[] good = new int[MOST_LEFT + 1];
+        /** The place of the RULE that decided it: by it the writer gets his will; NONE without. */
+        private final int[] decided = new int[MOST_LEFT + 1];
         private int side;
         private int listed;
         private int longest;
 
-        Contest(Listing listing) {
-            this.listing = listing;
+        Contest() {
             Board board = new Board();
             for (int k = 0; k <= MOST_LEFT; k++) {
                 stands[k] = new Stand(board);
             }
         }
 
-        void begin(Board board, int writer, int most, int left) {
+        /** Whether a SIDE that is to write WINS from a BOARD on, within so many MOVES. */
+        boolean isWon(Board board, int writer, int most, int left) {
             side = writer;
             longest = most;
             listed = most == 1 ? LISTED_SIGNS : MOST_LISTED;
             stands[left].begin(board, writer);
+            return isWonWithin(left);
         }
 
-        /** BEST of what isWonWithin() found WON by so many MOVES. */
+        /** BEST of what isWon() found WON within so many MOVES. */
         long best(int left) {
-            int k = good[left];
+            int k = decided[left];
             if (k == NONE) {
                 return 0;
             }
@@ -1628,13 +1628,31 @@ public final class WrittenMoves {
         }
 
         /** Whether it can be WON by MOVES from where it stands, so many being left. */
-        boolean isWonWithin(int left) {
+        private boolean isWonWithin(int left) {
+            Stand stand = stands[left];
+            decided[left] = NONE;
+            // Where it is OVER no MOVE can be, whoever lacks men; by one MOVE one man is gone at most.
+            if (stand.isOver() || stand.menOf(1 - side) > left) {
+                return false;
+            }
+            list(left);
+            // The one who WINS needs one RULE by which it is WON, the other one a single RULE by which not.
+            boolean writes = stand.writer == side;
+            for (int k = 0; k < listed; k++) {
+                if (winsBehind(left, ends[left][k], !writes) == writes) {
+                    decided[left] = k;
+                    return writes;
+                }
+            }
+            return !writes;
+        }
+
+        /** Lists ENDS by all RULES; behind none of them anything is known. */
+        private void list(int left) {
             Stand stand = stands[left];
             int man = stand.nextMan(1 - stand.writer);
-            good[left] = NONE;
-            // Where it is OVER no MOVE can be, whoever lacks men; by one MOVE one man is gone at most.
-            if (man == NONE || stand.isOver() || stand.menOf(1 - side) > left) {
-                return false;
+            if (man == NONE) {
+                return;
             }
             listing.begin(stand.board, stand.at, man, longest);
             for (int k = 0; k < listed && listing.next(); k++) {
@@ -1643,26 +1661,6 @@ public final class WrittenMoves {
             for (int field = 0; field <= NO_FIELD; field++) {
                 known[left][field] = 0;
             }
-            return stand.writer == side ? someGood(left) : allGood(left);
-        }
-
-        private boolean someGood(int left) {
-            for (int k = 0; k < listed; k++) {
-                if (winsBehind(left, ends[left][k], false)) {
-                    good[left] = k;
-                    return true;
-                }
-            }
-            return false;
-        }
-
-        private boolean allGood(int left) {
-            for (int k = 0; k < listed; k++) {
-                if (!winsBehind(left, ends[left][k], true)) {
-                    return false;
-                }
-            }
-            return true;
         }
 
         /** Whether it is WON behind one of the ENDS (chosen by its own man), or behind all. */
