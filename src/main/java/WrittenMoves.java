@@ -1595,8 +1595,8 @@ public final class WrittenMoves {
         /** The place of the RULE that decided it: by it the writer gets his will; NONE without. */
         private final int[] decided = new int[MOST_LEFT + 1];
         private int side;
+        /** How many RULES may be written, by their order: those of one SIGN, or of two, too. */
         private int listed;
-        private int longest;
 
         Contest() {
             Board board = new Board();
@@ -1608,7 +1608,6 @@ public final class WrittenMoves {
         /** Whether a SIDE that is to write WINS from a BOARD on, within so many MOVES. */
         boolean isWon(Board board, int writer, int most, int left) {
             side = writer;
-            longest = most;
             listed = most == 1 ? LISTED_SIGNS : MOST_LISTED;
             stands[left].begin(board, writer);
             return isWonWithin(left);
@@ -1654,7 +1653,7 @@ public final class WrittenMoves {
             if (man == NONE) {
                 return;
             }
-            listing.begin(stand.board, stand.at, man, longest);
+            listing.begin(stand.board, stand.at, man, MOST_LENGTH);
             for (int k = 0; k < listed && listing.next(); k++) {
                 ends[left][k] = listing.reached();
             }
